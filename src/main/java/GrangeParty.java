@@ -443,13 +443,9 @@ public final class GrangeParty {
             return at(place) - '0';
         }
 
-        int kindAt(int place) {
-            return Kinds.ofLetter(at(place));
-        }
-
         int firstFault() {
-            for (int place = 0; place < length; place++) {
-                if (!fits(place)) {
+            for (int place = 0; place < length && place < MOST_LETTERS; place++) {
+                if (!fits(place, letters[place])) {
                     return place;
                 }
             }
@@ -469,32 +465,34 @@ public final class GrangeParty {
             return HEAD + STRIDE * guest;
         }
 
-        private boolean fits(int place) {
+        private static boolean fits(int place, int code) {
             if (place < HEAD - 1) {
-                return isDigitBelow(place, 10);
+                return isDigitBelow(code, 10);
             }
             if (place == HEAD - 1) {
-                return at(place) == ';';
+                return code == ';';
             }
-            return fitsGuest(place, (place - HEAD) / STRIDE);
+            return fitsGuest((place - HEAD) / STRIDE, (place - HEAD) % STRIDE, code);
         }
 
-        private boolean fitsGuest(int place, int guest) {
-            switch (place - placeOf(guest)) {
+        private static boolean fitsGuest(int guest, int step, int code) {
+            if (guest >= MOST_GUESTS) {
+                return false;
+            }
+            switch (step) {
                 case 0:
-                    return guest < MOST_GUESTS && kindAt(place) != NONE;
+                    return Kinds.ofLetter(code) != NONE;
                 case 1:
-                    return guest < MOST_GUESTS && isDigitBelow(place, 10);
+                    return isDigitBelow(code, 10);
                 case 2:
-                    return guest < MOST_GUESTS && (at(place) == '-' || isDigitBelow(place, guest));
+                    return code == '-' || isDigitBelow(code, guest);
                 default:
-                    return guest < MOST_GUESTS - 1 && at(place) == ',';
+                    return code == ',' && guest < MOST_GUESTS - 1;
             }
         }
 
-        private boolean isDigitBelow(int place, int bound) {
-            int digit = digitAt(place);
-            return digit >= 0 && digit < bound;
+        private static boolean isDigitBelow(int code, int bound) {
+            return code >= '0' && code < '0' + bound;
         }
     }
 
@@ -573,7 +571,7 @@ public final class GrangeParty {
             hours = 0;
             for (int i = 0; i < guests && i < MOST_GUESTS; i++) {
                 int place = Page.placeOf(i);
-                kind[i] = page.kindAt(place);
+                kind[i] = Kinds.ofLetter(page.at(place));
                 shy[i] = page.digitAt(place + 1);
                 friend[i] = page.at(place + 2) == '-' ? NONE : page.digitAt(place + 2);
             }
@@ -694,8 +692,11 @@ public final class GrangeParty {
         }
 
         private void goOneByOne() {
-            for (int i = 0; i < MOST_GUESTS; i++) {
-                here &= ~Integer.lowestOneBit(whoCanGoAlone());
+            int can = whoCanGoAlone();
+            for (int went = 0; went < MOST_GUESTS && can != 0; went++) {
+                int first = can & -can;
+                here &= ~first;
+                can = whoCanGoAlone();
             }
         }
     }
@@ -753,7 +754,7 @@ public final class GrangeParty {
             above = 0;
             for (int some = 1; some <= risers.here && some < risers.most.length; some++) {
                 if (risers.isChoice(some) && isAmong(guest, risers.most[some])) {
-                    above += weight[Integer.bitCount(some) - 1 & MOST_GUESTS - 1];
+                    above += weightOf(some);
                 }
             }
             below = power(TENTHS, others);
@@ -764,6 +765,11 @@ public final class GrangeParty {
             for (int awake = 0; awake <= others && awake < MOST_GUESTS; awake++) {
                 weight[awake] = power(TENTHS - tenths, awake) * power(tenths, others - awake);
             }
+        }
+
+        private int weightOf(int some) {
+            int awake = Integer.bitCount(some) - 1;
+            return awake < 0 || awake >= MOST_GUESTS ? 0 : weight[awake];
         }
 
         private void reduce() {
@@ -844,7 +850,7 @@ public final class GrangeParty {
 
     /** What is seen of those of whom it is not known how shy they are. */
     private static final class Seen {
-        private static final int ANY_SHYNESS = (1 << MOST_SHY + 1) - 1;
+        private static final int ANY_SHYNESS = (1 << (MOST_SHY + 1)) - 1;
 
         final int[] guest = new int[MOST_SEEN];
         final int[] others = new int[MOST_SEEN];
