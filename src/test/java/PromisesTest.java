@@ -384,6 +384,8 @@ public final class PromisesTest {
         due("9 friend stays", x.hour(), 0);
         x = made("50;k0-,g2-,g9-");
         due("9 cough gone counts 2", x.hour(), 2);
+        x = made("99;g7-,g6-,g5-,g4-,g3-,g2-,g1-,g0-");
+        due("9 all eight, the last first", x.hour(), 8);
         x = made("00;g9-,h9-");
         for (int i = 1; i <= 8; i++) {
             x.hour();
@@ -469,6 +471,8 @@ public final class PromisesTest {
         due("14 none", made("10;g2-,g1-").most(), 0);
         due("14 without the shy", made("10;g9-,g1-,g1-,p0-").most(), 14);
         due("14 one after another drops", made("10;g9-,g2-,g2-,g3-,p00").most(), 0);
+        due("14 each drops in turn", made("10;g8-,g7-,g6-,g5-,g4-,g3-,g2-,g1-").most(), 0);
+        due("14 each but the last", made("10;g8-,g7-,g6-,g5-,g4-,g3-,g2-,g0-").most(), 128);
         due("14 friend stays", made("10;g9-,p00,p0-").most(), 4);
         GrangeParty x = made("10;g1-,g1-,g3-");
         x.rise(3);
@@ -484,6 +488,7 @@ public final class PromisesTest {
         due("15 two", made("10;g1-,g1-,g1-").least(), 3);
         due("15 one, though later", made("10;g1-,g1-,p0-").least(), 4);
         due("15 least of like", made("10;g1-,p0-,p0-").least(), 2);
+        due("15 the first", made("10;p0-,g1-,p0-").least(), 1);
         due("15 none", made("10;g2-,g2-").least(), 0);
         due("15 with friend", made("10;g1-,g1-,p01").least(), 3);
         due("15 three", made("10;g9-,g2-,g2-,g2-").least(), 14);
@@ -567,7 +572,19 @@ public final class PromisesTest {
         x = made("10;g7-,p0-,p0-,p0-,p0-,p0-,p0-,p0-");
         due("18 all of seven", x.odds(0, 1, 0), 4782969);
         due("18 all of seven, below", x.odds(0, 1, 1), 10000000);
+        // Of 1000: 512 that all three are awake, and 384 that one of them sleeps.
+        x = made("10;g2-,p0-,p0-,p0-");
+        due("18 two of three", x.odds(0, 2, 0), 112);
+        due("18 two of three, below", x.odds(0, 2, 1), 125);
+        x = made("10;g2-,p0-,p0-");
+        due("18 by 2 alone", x.odds(0, 3, 0), 49);
+        due("18 by 2 alone, below", x.odds(0, 3, 1), 100);
+        x = made("10;g1-,p0-,h9-");
+        due("18 by tens", x.odds(0, 3, 0), 7);
+        due("18 by tens, below", x.odds(0, 3, 1), 10);
         x = made("10;p0-,p00");
+        due("18 friend sleeps, by 2", x.odds(1, 4, 0), 3);
+        due("18 friend sleeps, by 2, below", x.odds(1, 4, 1), 5);
         due("18 friend sleeps", x.odds(1, 3, 0), 7);
         due("18 friend sleeps, below", x.odds(1, 3, 1), 10);
     }
@@ -657,6 +674,7 @@ public final class PromisesTest {
         due("23 restore", x.restore(), 0);
         due("23 all as it was", x.digest(), before);
         x.forget();
+        x.see(2, 9, true);
         x.letter(65);
         due("23 restore again", x.restore(), 0);
         due("23 seen", x.guest(0, 6), 1008);
@@ -709,6 +727,15 @@ public final class PromisesTest {
                 0, 0, 1, 2, 10, 0, 1, 0, 1,
                 66,
                 2, 2, 10, 0, 10, 0, 0, 0, 1, 1));
+        x.turn(0, 0, 0);
+        x.turn(1, 1, 2);
+        // The first goes in an hour, and the other, who needs one, behind him; now only if he does not sleep.
+        due("25 digest, odds", x.digest(), mixed(
+                0, 0, NONE, 1, 0, 1, 1023, 4, 0,
+                1, 2, 0, 1, 1, 1, 1023, 1, 0,
+                3, 1, 0, 0, 1, 1, 1, 3, 5,
+                66,
+                2, 2, 10, 0, 2, 0, 1, 0, 1, 1));
         x.turn(1, 3, 9);
         x.turn(0, 4, 0);
         due("25 one goes", x.rise(1), 1);
