@@ -1,38 +1,6 @@
 /** Each promise of the document by hand: ordinary inputs, the edges that it names, and wrong inputs. */
-public final class PromisesTest {
-    private static final int NONE = -1, UNKNOWN = -101, OUTSIDE = -102, STATE = -103, FULL = -104;
+public final class PromisesTest extends PartyTest {
     private static final String EIGHT = "99;g0-,c10,h21,p32,k43,g54,c65,h76";
-    private static int wrong = 0;
-
-    private static void due(String call, long got, long want) {
-        if (got != want) {
-            wrong++;
-            System.out.println(call + " answered " + got + ", due is " + want);
-        }
-    }
-
-    private static int write(GrangeParty x, String text) {
-        int length = 0;
-        for (int i = 0; i < text.length(); i++) {
-            length = x.letter(text.charAt(i));
-        }
-        return length;
-    }
-
-    private static GrangeParty made(String text) {
-        GrangeParty x = new GrangeParty();
-        write(x, text);
-        due("party " + text, x.party(), (text.length() - 2) / 4);
-        return x;
-    }
-
-    private static long mixed(long... numbers) {
-        long h = 1277;
-        for (long number : numbers) {
-            h = 31 * h + number;
-        }
-        return h;
-    }
 
     public static void main(String[] args) {
         aNewObject();
@@ -64,10 +32,7 @@ public final class PromisesTest {
         image();
         count();
         digest();
-        System.out.println(wrong == 0 ? "all promises are kept" : wrong + " answers are not as due");
-        if (wrong != 0) {
-            System.exit(1);
-        }
+        end("all promises are kept");
     }
 
     private static void aNewObject() {
