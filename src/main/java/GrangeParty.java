@@ -313,7 +313,11 @@ public final class GrangeParty {
             homes.find(room);
             risers.find(room);
             h = mixGuests(h);
-            h = mixWouldBe(h);
+            h = mix(h, most());
+            h = mix(h, risers.fewest());
+            h = mix(h, hire(0));
+            h = mix(h, hire(1));
+            h = mix(h, ends());
             h = mixOdds(h);
         }
         for (int place = 0; place < page.length; place++) {
@@ -378,20 +382,12 @@ public final class GrangeParty {
 
     private long mixGuests(long start) {
         long h = start;
-        for (int guest = 0; guest < room.guests; guest++) {
+        for (int guest = 0; guest < room.guests && guest < MOST_GUESTS; guest++) {
             for (int what = 0; what <= LAST_OF_GUEST; what++) {
                 h = mix(h, tellOfGuest(guest, what));
             }
         }
         return h;
-    }
-
-    private long mixWouldBe(long start) {
-        long h = mix(start, most());
-        h = mix(h, risers.fewest());
-        h = mix(h, hire(0));
-        h = mix(h, hire(1));
-        return mix(h, ends());
     }
 
     private long mixOdds(long start) {
@@ -588,7 +584,7 @@ public final class GrangeParty {
         }
 
         boolean hasGuest(int guest) {
-            return guest >= 0 && guest < guests;
+            return guest >= 0 && guest < guests && guest < MOST_GUESTS;
         }
 
         boolean isHere(int guest) {
@@ -715,9 +711,13 @@ public final class GrangeParty {
                 if (isChoice(some)) {
                     int can = room.whoCanGo(some);
                     // Who cannot go with many cannot go with fewer of these, and the fewer stand in the row already.
-                    most[some] = can == some ? some : most[can];
+                    most[some] = can == some ? some : mostOf(can);
                 }
             }
+        }
+
+        private int mostOf(int some) {
+            return some < 0 || some >= most.length ? 0 : most[some];
         }
 
         /** Whether all of some are here. */
@@ -812,7 +812,7 @@ public final class GrangeParty {
             for (int i = 0; i < MOST_GUESTS; i++) {
                 hints[i] = NONE;
             }
-            for (int some = 1; some <= room.here; some++) {
+            for (int some = 1; some <= room.here && some < 1 << MOST_GUESTS; some++) {
                 if ((some & ~room.here) == 0) {
                     noteFor(some, hintsToRise(room, some));
                 }
